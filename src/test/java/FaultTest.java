@@ -205,6 +205,8 @@ public final class FaultTest {
         faults(head + "CLM*R*1~LIN*1*A*1~ZZZ~LIN*2*A*2~", "6:1 7:2");
         faults(head + "CLM*R*1~LIN*1*A*1~CLM*R*2~LIN*1*A*2~", "");
         faults(head + "CLM*R*1~CLM*R*1~LIN*1*A*1~", "4:6");
+        faults(head + "CLM*R*2~CLM*R*1~LIN*1*A*1~", "4:6");
+        faults(head + "CLM*R*1~ZZZ~LIN*1*A*1~", "4:6 5:1 6:2");
         faults(head + "CLM*R*0.10~LIN*1*A*-99999.99~LIN*2*A*99999.99~LIN*3*A*0.10~", "");
         faults(head + "CLM*R*99999.99~LIN*1*A*99999~LIN*2*A*0.99~", "");
         faults(head + "CLM*R*-0.01~LIN*1*A*-0.01~", "");

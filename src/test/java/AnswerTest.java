@@ -69,26 +69,8 @@ public final class AnswerTest {
                 + "AST*837*1~AFT*2*END*3~AEN*R~AGE*P*11*10~");
     }
 
-    /** An envelope of so many SETS, 10 at least, whose answer would have so many bytes. */
-    private static String answering(int sets, int bytes) {
-        // 9 of AGR, 11 of AGE; of each SET AST 6, AEN 6, of SET and END 24, and 9 and the NAME of each of the three.
-        int left = bytes - 20 - 63 * sets;
-        StringBuilder segments = new StringBuilder();
-        for (int s = 0; s < sets; s++) {
-            segments.append("SET~");
-            for (int i = 0; i < 3; i++) {
-                int width = Math.min(12, left);
-                segments.append("X".repeat(width)).append('~');
-                left -= width;
-            }
-            segments.append("END~");
-        }
-        check.due("bytes left over", left, 0);
-        return Check.envelope(sets, segments.toString());
-    }
-
     private static void full() {
-        LoopEnvelopes x = Check.taken(answering(22, 2000));
+        LoopEnvelopes x = Check.taken(Check.answering(22, 2000));
         check.due("answer() of 2000", x.answer(), 2000);
         check.due("count(6)", x.count(6), 2000);
         check.due("answered(1999)", x.answered(1999), '~');
@@ -96,7 +78,7 @@ public final class AnswerTest {
         check.due("turn() of 2000", x.turn(), LoopEnvelopes.FULL);
         check.due("THE ANSWER stays", x.count(6), 2000);
         x.cut(0);
-        Check.append(x, answering(22, 2001));
+        Check.append(x, Check.answering(22, 2001));
         check.due("read()", x.read(), 0);
         int length = x.count(5);
         check.due("THE ANSWER is the earlier one", x.count(6), 2000);
@@ -153,7 +135,7 @@ public final class AnswerTest {
     }
 
     private static void turnsAt(int bytes, int want) {
-        LoopEnvelopes x = Check.taken(answering(12, bytes));
+        LoopEnvelopes x = Check.taken(Check.answering(12, bytes));
         int before = x.count(5);
         check.due("answer() of " + bytes, x.answer(), bytes);
         check.due("turn() of " + bytes, x.turn(), want);

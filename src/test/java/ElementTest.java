@@ -9,30 +9,22 @@ public final class ElementTest {
         check.end();
     }
 
-    private static String element(LoopEnvelopes x, int k, int e) {
-        StringBuilder told = new StringBuilder();
-        for (int i = 0; i < x.size(k, e); i++) {
-            told.append((char) x.byteOf(k, e, i));
-        }
-        return told.toString();
-    }
-
     private static void elements() {
         LoopEnvelopes x = Check.taken(Check.envelope(1,
                 "SET*837*1~\r\nA\n*B:C**\r*123456789012*:*6*7*~~\nLVL*~END*5*1~"));
         String[] want = {"A\n", "B:C", "", "\r", "123456789012", ":", "6", "7", ""};
         for (int e = 0; e < want.length; e++) {
             check.due("size(2, " + e + ")", x.size(2, e), want[e].length());
-            check.due("bytes of (2, " + e + ")", element(x, 2, e), want[e]);
+            check.due("bytes of (2, " + e + ")", Check.element(x, 2, e), want[e]);
         }
         check.due("size(2, 9)", x.size(2, 9), LoopEnvelopes.NONE);
         check.due("size of an empty NAME", x.size(3, 0), 0);
         check.due("no ELEMENT behind it", x.size(3, 1), LoopEnvelopes.NONE);
-        check.due("NAME behind a break", element(x, 4, 0), "LVL");
+        check.due("NAME behind a break", Check.element(x, 4, 0), "LVL");
         check.due("an empty ELEMENT", x.size(4, 1), 0);
         check.due("no second", x.size(4, 2), LoopEnvelopes.NONE);
-        check.due("the first SEGMENT of all", element(x, 0, 0) + element(x, 0, 1) + element(x, 0, 2), "GRPHC7");
-        check.due("the last SEGMENT of all", element(x, 7, 0) + element(x, 7, 1) + element(x, 7, 2), "CLS142");
+        check.due("the first SEGMENT of all", Check.element(x, 0, 0) + Check.element(x, 0, 1) + Check.element(x, 0, 2), "GRPHC7");
+        check.due("the last SEGMENT of all", Check.element(x, 7, 0) + Check.element(x, 7, 1) + Check.element(x, 7, 2), "CLS142");
     }
 
     private static void everyByte() {

@@ -75,6 +75,69 @@ final class Check {
         return told.toString();
     }
 
+    /** All that an object tells, its TEXT too: alike for two of them, if no call can tell them apart. */
+    static String state(LoopEnvelopes x) {
+        return wasRead(x) + " text " + text(x) + " answer " + answered(x);
+    }
+
+    /** What was read, as far as a call tells it. */
+    static String wasRead(LoopEnvelopes x) {
+        StringBuilder told = new StringBuilder("where ").append(x.where());
+        for (int what = 0; what < 5; what++) {
+            told.append(" count ").append(x.count(what));
+        }
+        for (int g = 0; g < x.count(1); g++) {
+            for (int what = 0; what < 4; what++) {
+                told.append(" group ").append(x.group(g, what));
+            }
+        }
+        for (int s = 0; s < x.count(2); s++) {
+            addSet(told, x, s);
+        }
+        for (int k = 0; k < x.count(0); k++) {
+            for (int e = 0; x.size(k, e) >= 0; e++) {
+                told.append(" element ").append(element(x, k, e));
+            }
+        }
+        return told.toString();
+    }
+
+    private static void addSet(StringBuilder told, LoopEnvelopes x, int s) {
+        for (int what = 0; what < 7; what++) {
+            told.append(" set ").append(x.setOf(s, what));
+        }
+        told.append(" faults ").append(faults(x, s));
+        for (int k = 0; k < x.setOf(s, 3); k++) {
+            for (int what = 0; what < 6; what++) {
+                told.append(" level ").append(x.level(s, k, what));
+            }
+        }
+        for (int k = 0; k < x.setOf(s, 4); k++) {
+            for (int what = 0; what < 5; what++) {
+                told.append(" claim ").append(x.claim(s, k, what));
+            }
+        }
+    }
+
+    static String element(LoopEnvelopes x, int k, int e) {
+        StringBuilder told = new StringBuilder();
+        for (int i = 0; i < x.size(k, e); i++) {
+            told.append((char) x.byteOf(k, e, i));
+        }
+        return told.toString();
+    }
+
+    /** THE TEXT: set() alone tells its bytes, so each is set and put back. */
+    static String text(LoopEnvelopes x) {
+        StringBuilder told = new StringBuilder();
+        for (int i = 0; i < x.count(5); i++) {
+            int b = x.set(i, 0);
+            x.set(i, b);
+            told.append((char) b);
+        }
+        return told.toString();
+    }
+
     static String shown(String text) {
         return text.replace("\r", "\\r").replace("\n", "\\n");
     }
@@ -91,6 +154,27 @@ final class Check {
             count += segments.charAt(i) == '~' ? 1 : 0;
         }
         return "SET*837*1~" + segments + "END*" + count + "*1~";
+    }
+
+    /** An envelope of so many SETS, 10 at least, whose answer would have so many bytes. */
+    static String answering(int sets, int bytes) {
+        // 9 of AGR, 11 of AGE; of each SET AST 6, AEN 6, of SET and END 24, and 9 and the NAME of each of the three.
+        int left = bytes - 20 - 63 * sets;
+        StringBuilder segments = new StringBuilder();
+        for (int s = 0; s < sets; s++) {
+            segments.append("SET~");
+            for (int i = 0; i < 3; i++) {
+                int width = Math.min(12, left);
+                segments.append("X".repeat(width)).append('~');
+                left -= width;
+            }
+            segments.append("END~");
+        }
+        if (left != 0) {
+            System.out.println("so many SETS cannot have an answer of " + bytes + " bytes");
+            System.exit(1);
+        }
+        return envelope(sets, segments.toString());
     }
 
     /** The FAULTS of SET s as "place:fault" in their order. */

@@ -238,6 +238,16 @@ public final class PromiseSentencesTest {
         check.due("it tells what a new object tells", Check.state(x), Check.state(Check.taken(right)));
         check.due("read() of the same", x.read(), 0);
         check.due("it tells the same", Check.state(x), Check.state(Check.taken(right)));
+        // Nor is a SET that an earlier one had still judged, where the SEGMENTS are another SET's now.
+        String shorter = Check.envelope(2, Check.set("") + Check.set("LVL*1**20*0~"));
+        String longer = Check.envelope(1, Check.set(LEVELS + "CLM*R*0~LVL*3**20*0~"));
+        for (String[] both : new String[][] {{shorter, longer}, {longer, shorter}}) {
+            LoopEnvelopes y = Check.taken(both[0]);
+            y.cut(0);
+            Check.append(y, both[1]);
+            check.due("read() of another", y.read(), 0);
+            check.due("it tells what a new object tells of it", Check.state(y), Check.state(Check.taken(both[1])));
+        }
     }
 
     private static void where() {
